@@ -361,13 +361,13 @@ public final class ShornYear {
             return found(BEYOND);
         }
         int best = 0;
-        int least = YEAR * MOST_STORED + 1;
+        int least = 0;
         for (int m = 0; m < YEAR; m++) {
             trial.become(here);
             trial.weather[m] = Math.min(WARMEST, trial.weather[m] + 5);
             trial.pass(n);
             int rough = sum(trial.rough);
-            if (rough < least) {
+            if (m == 0 || rough < least) {
                 least = rough;
                 best = m;
             }

@@ -43,6 +43,7 @@ public final class BestTest {
         Due.is("21", x.cold(0, 6, 21), Due.NONE);
         Due.is("no June", x.cold(0, 5, 1), Due.NONE);
         Due.is("none is wanted", x.cold(0, 5, 0), 20);
+        Due.is("in one month", x.cold(0, 1, 0), 20);
         Due.is("two Junes", x.cold(0, 18, 21), -2);
         Due.is("five Junes", x.cold(0, 60, 100), -20);
         x.months(1);
@@ -82,6 +83,8 @@ public final class BestTest {
         Due.is("half of one is none, but it may", y.best(0, 1), 7);
         ShornYear z = Due.told("store 6 5; store 7 5; cut 0 7 1; mild 6 11");
         Due.is("an odd one makes a whole", z.best(0, 1), 7);
+        ShornYear h = Due.told("store 2 5; store 9 600; cut 0 9 500");
+        Due.is("what it has already makes none better", h.best(0, 5), 2);
         Due.is("status none", x.status(3), 1);
         Due.all("beyond", Due.BEYOND, x.best(-1, 1), x.best(4, 1), x.best(0, 0), x.best(0, 1000));
         for (int wild : Due.WILD) {
@@ -104,7 +107,8 @@ public final class BestTest {
         x.months(2);
         Due.is("now", x.bears(0, 0, 28), 99);
         Due.is("now too much", x.bears(0, 0, 29), Due.NONE);
-        Due.is("status none", x.status(3), 3);
+        Due.is("1188 may be asked", x.bears(0, 0, 1188), Due.NONE);
+        Due.is("status none", x.status(3), 4);
         Due.all("beyond", Due.BEYOND, x.bears(-1, 0, 0), x.bears(3, 0, 0), x.bears(0, -1, 0), x.bears(0, 61, 0),
             x.bears(0, 0, -1), x.bears(0, 0, 1189));
         for (int wild : Due.WILD) {
@@ -116,6 +120,7 @@ public final class BestTest {
         ShornYear x = Due.told("ewe");
         // Month 0 (-12) comes to -7 and month 4 (-9) to -4: both are then no longer rough.
         Due.is("the least of two", x.milder(6), 0);
+        Due.is("in one month none is rough", x.milder(1), 0);
         x.weather(0, -14);
         Due.is("-9 is still rough", x.milder(6), 4);
         x.weather(0, -13);

@@ -100,6 +100,8 @@ public final class ImagesTest {
         x.scare(0, 50);
         x.months(3);
         x.undo();
+        Due.is("no fright of one that is gone", x.count(3), 0);
+        Due.is("nor wool", x.now(5), 0);
         Due.is("a new one", x.ewe(2), 0);
         Due.is("kind", x.of(0, 0), Due.LAMB);
         Due.is("fright", x.of(0, 1), 0);

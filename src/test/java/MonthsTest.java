@@ -62,6 +62,12 @@ public final class MonthsTest {
         for (int m = 0; m < 12; m++) {
             Due.all("bare", 0, x.fleece(0, m), x.fleece(1, m), x.fleece(2, m));
         }
+        ShornYear y = Due.told("ewe fright 99; mild 0 0");
+        y.months(1);
+        y.weather(0, -9);
+        y.months(5);
+        Due.is("one of wool", y.monthOf(0, 1), 1);
+        Due.is("has burrs", y.monthOf(0, 2), 1);
         x.weather(7, 11);
         x.months(12);
         Due.is("black has no 7", x.monthOf(7, 1), 10 + 5);
@@ -111,6 +117,8 @@ public final class MonthsTest {
         Due.is("rough of 311", x.monthOf(0, 2), 311 * 32);
         x.months(24);
         Due.is("rough at most", x.monthOf(0, 2), 9999);
+        // Of 3 (weather 9) black ones grow no more wool at 14, nor burrs.
+        Due.is("of much rough the least too", x.milder(12), 3);
         Due.is("store still at most", x.monthOf(0, 1), 9999);
     }
 

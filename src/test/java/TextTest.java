@@ -67,7 +67,7 @@ public final class TextTest {
         Due.is("cold 20", x.monthOf(1, 0), 80);
         Due.is("mild 20", x.monthOf(11, 0), 120);
         Due.is("mild 0", x.monthOf(10, 0), 100);
-        Due.is("store and cut", Due.parish(x, "store 0 9999;store 11 5;store 11 0;cut 3 0 999;cut 0 0 0"), 5);
+        Due.is("store and cut", Due.parish(x, "store 0 9999;store 11 5;store 11 0;cut 3 0 999;cut 0 11 0"), 5);
         Due.is("store 0", x.monthOf(0, 1), 9000);
         Due.is("store 11", x.monthOf(11, 1), 0);
         Due.is("coat 3", x.coatOf(3, 2), 999);
@@ -109,13 +109,15 @@ public final class TextTest {
             "cold", "cold x", "cold 12 0", "cold 0", "cold 0 21", "cold 0 ;", "cold 0 5 5", "cold -5 1",
             "mild 0 21", "mild 12", "cut", "cut 4 0 0", "cut 0 12 0", "cut 0 0 1", "cut 0 0", "cut 0 0 0 0",
             "store", "store 12 0", "store 0 10000", "store 0", "store 0 5,", "ewe.", "#", "ewe fright 99 ;  mil 0 0",
-            "ewe\n", "\tewe", "cold;", "hen; ewe", "ewe;hen;#", "ewe fright99x"};
+            "ewe\n", "\tewe", "cold;", "hen; ewe", "ewe;hen;#", "ewe fright99x",
+            "pwe", "lack", "mold 0 0", "ewe wright 5", "eve", "cut 0", "cut 0;", "mild 0", "store 0;"};
         int[] places = {0, 1, 4, 5, 0, 0, 4, 4, 4, 10,
             11, 11, 13, 0, 0, 0, 0, 0, 0,
             4, 5, 5, 6, 7, 7, 9, 5,
             7, 5, 3, 4, 6, 8, 7, 10,
             5, 6, 8, 7, 9, 3, 0, 17,
-            3, 0, 4, 0, 4, 12};
+            3, 0, 4, 0, 4, 12,
+            0, 0, 0, 4, 0, 5, 5, 6, 7};
         for (int i = 0; i < texts.length; i++) {
             Due.is("'" + texts[i] + "'", Due.parish(x, texts[i]), -1 - places[i]);
             Due.is("the tape behind '" + texts[i] + "'", x.count(1), 0);
