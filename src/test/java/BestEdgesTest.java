@@ -76,6 +76,9 @@ public final class BestEdgesTest {
         Twin.range("cold, n", 1, 60, Twin::parish, (x, v) -> x.cold(8, v, 5));
         Twin.range("cold", 0, 9999, Twin::parish, (x, v) -> x.cold(8, 12, v));
         Twin.refused("all wrong", Due.BEYOND, Twin::parish, x -> x.cold(12, 0, -1));
+        Twin.refused("BEYOND is asked before NONE", Due.BEYOND, Twin::parish, x -> x.cold(12, 1, 9999));
+        Twin.refused("for any n", Due.BEYOND, Twin::parish, x -> x.cold(0, 61, 9999));
+        Twin.refused("for any v", Due.BEYOND, ShornYear::new, x -> x.cold(0, 1, 10000));
     }
 
     /** "The greatest WEATHER", "NONE." */
@@ -113,6 +116,7 @@ public final class BestEdgesTest {
         Twin.range("best, coat", 0, 3, Twin::parish, (x, v) -> x.best(v, 5));
         Twin.range("best", 1, 999, () -> Twin.told("store 9 999"), (x, v) -> x.best(3, v));
         Twin.range("best of none", 1, 999, ShornYear::new, (x, v) -> x.best(3, v));
+        Twin.refused("BEYOND is asked before NONE", Due.BEYOND, ShornYear::new, x -> x.best(4, 999));
         Twin.looks("1", 9, () -> Twin.told("store 9 1"), x -> x.best(3, 1));
         Twin.looks("999", 9, () -> Twin.told("store 9 999"), x -> x.best(3, 999));
     }
@@ -159,6 +163,8 @@ public final class BestEdgesTest {
         Twin.range("bears of eight", 0, 7, Twin::full, (x, v) -> x.bears(v, 2, 0));
         Twin.range("bears, n", 0, 60, Twin::parish, (x, v) -> x.bears(0, v, 5));
         Twin.range("bears", 0, 1188, Twin::parish, (x, v) -> x.bears(0, 2, v));
+        Twin.refused("BEYOND is asked before NONE", Due.BEYOND, Twin::parish, x -> x.bears(2, 0, 1188));
+        Twin.refused("for any n", Due.BEYOND, Twin::parish, x -> x.bears(0, 61, 1188));
     }
 
     /** "The greatest FRIGHT", "NONE." */

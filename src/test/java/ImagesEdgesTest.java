@@ -44,15 +44,14 @@ public final class ImagesEdgesTest {
     private static void imageOfEverything() {
         ShornYear x = everything();
         x.months(7);
-        for (int m = 0; m < 12; m++) {
-            x.weather(m, -m);
-        }
-        for (int e = 0; e < 8; e++) {
-            x.scare(e, 98 - e);
-            x.turn(e, 5);
-        }
+        x.weather(0, 20);
+        x.weather(11, 20);
+        x.scare(0, 1);
+        x.scare(7, 1);
+        x.turn(0, 5);
+        x.turn(7, 5);
         x.unpick(0);
-        x.cut(1, 4, 99);
+        x.cut(1, 4, 9);
         Due.is("undo", x.undo(), 8);
         Twin.same("undo", x, everything());
         ShornYear y = everything();
@@ -61,13 +60,9 @@ public final class ImagesEdgesTest {
     }
 
     private static ShornYear everything() {
-        ShornYear x = Twin.full();
-        x.months(1);
-        for (int e = 0; e < 8; e++) {
-            x.scare(e, 99 - e);
-        }
-        Twin.text(x, ";");
-        Twin.text(x, "store 0 9999;cut 0 0 999;cut 3 0 999;store 0 9999;store 11 1");
+        ShornYear x = Twin.told("ewe fright 99;ram fright 99;lamb;wether;black;pet;ewe;ram fright 98;store 0 9999");
+        Twin.text(x, "cut 0 0 999;cut 3 0 999;store 0 9999;store 11 1;cold 11 20");
+        x.months(9);
         x.image();
         return x;
     }

@@ -111,6 +111,8 @@ public final class MonthsEdgesTest {
     private static void enough() {
         Twin.range("enough, month", 0, 11, Twin::parish, (x, v) -> x.enough(v, 5));
         Twin.range("enough", 0, 9999, Twin::parish, (x, v) -> x.enough(0, v));
+        Twin.refused("BEYOND is asked before NONE", Due.BEYOND, Twin::parish, x -> x.enough(12, 9999));
+        Twin.refused("for any v", Due.BEYOND, ShornYear::new, x -> x.enough(0, 10000));
     }
 
     /** "In how many MONTHS (0 to 120) STORE .. is v .. or more first.", "NONE." */

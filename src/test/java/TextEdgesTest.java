@@ -316,6 +316,12 @@ public final class TextEdgesTest {
         fault("eweram", 0);
         fault("ewefright 5", 0);
         fault("ewes", 0);
+        fault("ewea", 0);
+        fault("ewez", 0);
+        fault("aewe", 0);
+        fault("zewe", 0);
+        fault("ewe0", 3);
+        fault("ewe9", 3);
         fault("blackpet", 0);
         fault("coldmild 1 2", 0);
         fault("ewe frights 5", 4);

@@ -103,7 +103,6 @@ public final class TextTest {
     }
 
     private static void faults() {
-        ShornYear x = new ShornYear();
         String[] texts = {"", " ", "ewe;", "ewe; ", ";", ";ewe", "ewe;;ram", "ewe ram", "ewe 5", "ewe fright",
             "ewe fright ram", "ewe fright 100", "ewe fright 5 5", "Ewe", "ewE", "ew", "ewes", "5", "fright 5",
             "cold", "cold x", "cold 12 0", "cold 0", "cold 0 21", "cold 0 ;", "cold 0 5 5", "cold -5 1",
@@ -119,11 +118,12 @@ public final class TextTest {
             3, 0, 4, 0, 4, 12,
             0, 0, 0, 4, 0, 5, 5, 6, 7};
         for (int i = 0; i < texts.length; i++) {
+            ShornYear x = new ShornYear();
             Due.is("'" + texts[i] + "'", Due.parish(x, texts[i]), -1 - places[i]);
             Due.is("the tape behind '" + texts[i] + "'", x.count(1), 0);
+            Due.is("no ewes came", x.count(0), 0);
+            Due.is("a fault is no finding", x.status(-1), 0);
         }
-        Due.is("no ewes came", x.count(0), 0);
-        Due.is("a fault is no finding", x.status(-1), 0);
     }
 
     private static void numbers() {

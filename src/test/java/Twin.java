@@ -150,7 +150,8 @@ final class Twin {
         // Half a text becomes a whole one, so that the bytes of THE TAPE are seen, too.
         row.add((long) x.feed('m', 1));
         row.add((long) x.parish());
-        for (int e = 0; e < x.count(0); e++) {
+        int ewes = x.count(0);
+        for (int e = 0; e < ewes; e++) {
             row.add((long) x.of(e, 0));
             row.add((long) x.of(e, 1));
         }
@@ -199,8 +200,9 @@ final class Twin {
 
     private static void seeCoats(ShornYear x, List<Long> row) {
         for (int c = 0; c < 4; c++) {
-            row.add((long) x.unpick(c));
-            for (int m = 0; m < 12; m++) {
+            int had = x.unpick(c);
+            row.add((long) had);
+            for (int m = 0; m < 12 && had > 0; m++) {
                 row.add((long) x.monthOf(m, 1));
             }
         }
