@@ -2,6 +2,7 @@
 public final class BestTest {
     public static void main(String[] args) {
         kind();
+        kindOfFullStore();
         cold();
         coldOfBlack();
         best();
@@ -32,6 +33,33 @@ public final class BestTest {
         for (int wild : Due.WILD) {
             Due.all("kind, wild " + wild, Due.BEYOND, b.kind(wild, 1), b.kind(0, wild));
         }
+    }
+
+    /** All months but the first are full, so that it goes by those alone that share in what is left of that one. */
+    private static ShornYear nearlyFull(String text, int ofTheFirst) {
+        ShornYear x = Twin.told(text);
+        for (int m = 0; m < 12; m++) {
+            Twin.text(x, "store " + m + " " + (m == 0 ? ofTheFirst : 9999));
+        }
+        return x;
+    }
+
+    private static void kindOfFullStore() {
+        ShornYear alone = nearlyFull("ewe", 9980);
+        Due.is("19 are left, of which an EWE has 16", alone.kind(0, 6), Due.RAM);
+        ShornYear two = nearlyFull("ewe;ewe", 9980);
+        Due.is("the other has 16 of them", two.kind(0, 6), Due.EWE);
+        Due.is("of the other", two.kind(1, 6), Due.EWE);
+        ShornYear uneven = nearlyFull("ram;lamb fright 45", 9979);
+        Due.is("the RAM has all 20", uneven.kind(1, 6), Due.EWE);
+        Due.is("but only as a RAM", uneven.kind(0, 6), Due.RAM);
+        ShornYear grown = nearlyFull("ewe", 9980);
+        grown.months(1);
+        Due.is("16 are on it already", grown.kind(0, 18), Due.EWE);
+        ShornYear frightened = nearlyFull("ewe fright 99", 9990);
+        Due.is("9 are left, a frightened EWE has 7", frightened.kind(0, 6), Due.RAM);
+        frightened.scare(0, 79);
+        Due.is("one less frightened has 9", frightened.kind(0, 6), Due.EWE);
     }
 
     private static void cold() {
@@ -83,6 +111,16 @@ public final class BestTest {
         Due.is("half of one is none, but it may", y.best(0, 1), 7);
         ShornYear z = Due.told("store 6 5; store 7 5; cut 0 7 1; mild 6 11");
         Due.is("an odd one makes a whole", z.best(0, 1), 7);
+        Due.is("not in another coat", z.best(1, 1), 6);
+        ShornYear o = Due.told("store 6 5; store 7 5; cut 1 7 1; mild 6 11");
+        Due.is("nor in the first by the second", o.best(0, 1), 6);
+        Due.is("but in the second", o.best(1, 1), 7);
+        ShornYear r = Due.told("black; cold 1 12");
+        r.months(5);
+        r.weather(1, -8);
+        r.months(1);
+        Due.is("ROUGH of 0 is more", r.monthOf(0, 2) - r.monthOf(1, 2), 1);
+        Due.is("but the least is best", r.best(0, 19), 0);
         ShornYear h = Due.told("store 2 5; store 9 600; cut 0 9 500");
         Due.is("what it has already makes none better", h.best(0, 5), 2);
         Due.is("status none", x.status(3), 1);

@@ -23,6 +23,7 @@ public final class FaceTest {
         face();
         nested();
         source();
+        limits();
         Due.end();
     }
 
@@ -79,6 +80,41 @@ public final class FaceTest {
                 boolean changes = Modifier.isStatic(f.getModifiers()) && !Modifier.isFinal(f.getModifiers());
                 Due.is(f + " is no static state", changes ? 1 : 0, 0);
             }
+        }
+    }
+
+    /** Rule 11: seven parameters, some sixty lines a method, some twelve classes, some twenty fields a class. */
+    private static void limits() throws IOException {
+        Class<?>[] nested = ShornYear.class.getDeclaredClasses();
+        Due.is("at most twelve classes", nested.length < 12 ? 1 : 0, 1);
+        few(ShornYear.class);
+        for (Class<?> c : nested) {
+            few(c);
+        }
+        String start = "";
+        int first = 0;
+        int at = 0;
+        for (String line : Files.readAllLines(Path.of("src/main/java/ShornYear.java"))) {
+            at++;
+            if (line.matches(" {4,8}[a-zA-Z].*\\) \\{") && !line.matches(" *(if|for|while|switch)\\b.*")) {
+                start = line.substring(0, line.length() - line.stripLeading().length());
+                first = at;
+            }
+            if (line.equals(start + "}")) {
+                Due.is("the method of lines " + first + " to " + at + " is short", at - first < 60 ? 1 : 0, 1);
+            }
+        }
+        Due.is("methods were seen", first > 0 ? 1 : 0, 1);
+    }
+
+    private static void few(Class<?> c) {
+        int fields = 0;
+        for (Field f : c.getDeclaredFields()) {
+            fields += Modifier.isStatic(f.getModifiers()) ? 0 : 1;
+        }
+        Due.is(c + " has at most twenty fields", fields <= 20 ? 1 : 0, 1);
+        for (Method m : c.getDeclaredMethods()) {
+            Due.is(m + " takes at most seven", m.getParameterCount() <= 7 ? 1 : 0, 1);
         }
     }
 

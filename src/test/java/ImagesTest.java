@@ -122,6 +122,7 @@ public final class ImagesTest {
         Due.is("fright", x.count(3), 197);
         x.unpick(0);
         Due.is("a coat less", x.count(2), 1);
+        Due.is("a coat that has no WARMTH", Due.told("store 7 1; cut 2 7 1").count(2), 1);
         Due.all("beyond", Due.BEYOND, x.count(-1), x.count(4));
         for (int wild : Due.WILD) {
             Due.is("count, wild " + wild, x.count(wild), Due.BEYOND);
